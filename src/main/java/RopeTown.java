@@ -89,7 +89,7 @@ public final class RopeTown {
         plan = told;
         book.begin(plan.firstState());
         isKept = false;
-        search.forgetRules();
+        search.forget();
         return 0;
     }
 
@@ -405,7 +405,7 @@ public final class RopeTown {
         }
     }
 
-    /** What a TEXT tells: the shaft, the THINGS as they are at first, the RULES; and what follows from it in a STATE. */
+    /** What a TEXT tells: the shaft, the THINGS at first, the RULES; and what follows from it in a STATE. */
     private static final class Plan {
         private int bottom;
         private int start;
@@ -1161,10 +1161,15 @@ public final class RopeTown {
         private int current;
         private final int[] doors;
         // Two bits for each lading at each DEPTH: whether its RULES were looked at, and whether it keeps them.
-        private final int[] judged;
+        private final int[] verdicts;
 
         private Search(Plan told) {
             plan = told;
+            byHand = false;
+            isSpent = false;
+            size = 0;
+            waiting = 0;
+            current = NONE;
             states = new int[MOST_STATES];
             costs = new int[MOST_STATES];
             parents = new int[MOST_STATES];
@@ -1173,15 +1178,20 @@ public final class RopeTown {
             heap = new int[MOST_STATES];
             spots = new int[MOST_STATES];
             doors = new int[MOST_THINGS];
-            judged = new int[(LADINGS * (MOST_DEPTH + 1) + 15) / 16];
+            verdicts = new int[(LADINGS * (MOST_DEPTH + 1) + 15) / 16];
         }
 
-        private void forgetRules() {
-            Arrays.fill(judged, 0);
+        private void forget() {
+            Arrays.fill(verdicts, 0);
+            size = 0;
         }
 
         /** Goes through all STATES, a RIDE costing 1, or its winding if it may be done by hand; false: SPENT. */
         private boolean explore(Plan told, int start, boolean mayWind) {
+            // Calls often ask one STATE several things: what was found of it last time still stands.
+            if (size > 0 && states[0] == start && byHand == mayWind) {
+                return !isSpent;
+            }
             plan = told;
             byHand = mayWind;
             isSpent = false;
@@ -1242,14 +1252,14 @@ public final class RopeTown {
             int item = lading * (MOST_DEPTH + 1) + State.depth(state);
             int word = item >> 4;
             int shift = 2 * (item & 15);
-            if (word >= judged.length) {
+            if (word >= verdicts.length) {
                 return;
             }
-            if ((judged[word] >>> shift & 1) == 0) {
+            if ((verdicts[word] >>> shift & 1) == 0) {
                 boolean keeps = plan.brokenRule(state, 0) == NONE && plan.brokenRule(state, 1) == NONE;
-                judged[word] |= (keeps ? 3 : 1) << shift;
+                verdicts[word] |= (keeps ? 3 : 1) << shift;
             }
-            if ((judged[word] >>> shift & 2) != 0) {
+            if ((verdicts[word] >>> shift & 2) != 0) {
                 go(state, lead, 1);
                 go(state, lead, -1);
             }

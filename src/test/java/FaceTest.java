@@ -46,7 +46,7 @@ public final class FaceTest {
             for (Method method : inside.getDeclaredMethods()) {
                 for (String known : face) {
                     boolean same = known.contains(" " + method.getName() + "(");
-                    Check.same(inside.getName() + "." + method.getName() + " bears a name of the face", 0, same ? 1 : 0);
+                    Check.same(method + " bears a name of the face", 0, same ? 1 : 0);
                 }
             }
         }

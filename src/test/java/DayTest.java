@@ -8,6 +8,7 @@ public final class DayTest {
         imageKeeps();
         imageReplaced();
         imageIsApart();
+        imageKeepsEachMove();
         imageLeavesTheRest();
         Check.end("DayTest");
     }
@@ -31,6 +32,9 @@ public final class DayTest {
         Check.same("days", 6, x.count(12));
         Check.same("status", 8, x.count(16));
         Check.same("no other status", 0, x.count(14) + x.count(15));
+        RopeTown y = Check.town("stone 5 at 0;load 2 at 0 to 1;");
+        Check.same("the first without an aim", NONE, y.day(1));
+        Check.same("the second", 1, y.day(2));
     }
 
     private static void noImage() {
@@ -111,6 +115,52 @@ public final class DayTest {
         x.restore();
         Check.same("it isn't changed by what follows", 0, x.moved(0, 1));
         Check.same("nor its state", 1, x.bucket(0, 3));
+    }
+
+    private static void imageKeepsEachMove() {
+        RopeTown x = Check.town("depth 2;start 1;load 5 at 1 to 2;stone 3 at 1;load 9 at 0 to 1;");
+        x.load(0, 0);
+        x.ride(0, 2);
+        x.load(2, 0);
+        x.day(1);
+        x.day(5);
+        x.image();
+        for (int i = 0; i < 3; i++) {
+            x.undo();
+        }
+        x.ride(2, 2);
+        x.ride(1, 2);
+        x.load(1, 1);
+        x.unload(1);
+        Check.tell(x, "x");
+        x.restore();
+        int[][] due = {{0, 0, 0}, {2, 0, 2}, {0, 2, 0}};
+        for (int i = 0; i < due.length; i++) {
+            for (int what = 0; what < 3; what++) {
+                Check.same("moved " + i + " " + what, due[i][what], x.moved(i, what));
+            }
+        }
+        Check.same("cost", 6, x.count(11));
+        Check.same("back", 1, x.back());
+        Check.same("undo", 2, x.undo());
+        Check.same("in 0", 1, x.bucket(0, 3));
+        Check.same("undo", 1, x.undo());
+        Check.same("at 1", 1, x.count(8));
+        Check.same("no cost", 0, x.count(11));
+        Check.same("undo", 0, x.undo());
+        Check.same("all unloaded", 0, x.bucket(0, 3));
+        Check.same("days", 2, x.count(12));
+        RopeTown y = Check.town("load 5 at 0 to 1;load 4 at 1 to 0;stone 9 at 0;");
+        y.day(1);
+        y.image();
+        Check.same("0 are enough", 0, y.enough(0));
+        Check.tell(y, "load 5 at 0 to 1;load 4 at 1 to 0;stone 9 at 0;");
+        y.day(2);
+        Check.same("1 is", 1, y.enough(0));
+        y.image();
+        y.day(3);
+        y.restore();
+        Check.same("1 is again", 1, y.enough(0));
     }
 
     private static void imageLeavesTheRest() {

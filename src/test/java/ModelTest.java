@@ -25,7 +25,7 @@ public final class ModelTest {
     }
 
     public static void main(String[] args) {
-        int runs = args.length > 0 ? Integer.parseInt(args[0]) : 400;
+        int runs = args.length > 0 ? Integer.parseInt(args[0]) : 1500;
         long first = args.length > 1 ? Long.parseLong(args[1]) : 1;
         int spent = 0;
         int answered = 0;
@@ -112,7 +112,7 @@ public final class ModelTest {
             }
             text.append(";\n");
         }
-        for (int i = random.nextInt(3) == 0 ? random.nextInt(5) : 0; i > 0; i--) {
+        for (int i = random.nextInt(2) == 0 ? random.nextInt(5) : 0; i > 0; i--) {
             text.append("rule ").append(random.nextBoolean() ? randomRule() : expr(3)).append(";");
         }
         return text.length() > 600 ? "" : text.toString();

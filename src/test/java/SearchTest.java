@@ -15,6 +15,7 @@ public final class SearchTest {
         rulesAndCap();
         spentEdge();
         spentThoughServed();
+        eachTownAnew();
         reach();
         reachServed();
         bars();
@@ -160,11 +161,39 @@ public final class SearchTest {
         Check.same("1875", SPENT, Check.town("depth 2;stone 1 at 0;stone 1 at 0;stone 1 at 0;stone 1 at 0;").fewest(1));
         Check.same("864", 0, Check.town("depth 3;stone 1 at 0;stone 1 at 0;stone 1 at 0;").fewest(1));
         Check.same("1715", SPENT, Check.town("depth 4;stone 1 at 0;stone 1 at 0;stone 1 at 0;").fewest(1));
+        // exactly as many as may be, and one more
+        spentOrNot("depth 5;needs 0;start 0;stone 7 at 0;water 9 at 3 to 4;load 6 at 0 to 1;", 2);
+        spentOrNot("depth 3;needs 0;stone 3 at 2;load 3 at 3 to 0;stone 7 at 0;load 3 at 3 to 1;", 2);
+        spentOrNot("depth 6;cap 9;stone 5 at 3;load 6 at 5 to 6;water 1 at 5 to 4;stone 5 at 0;", SPENT);
+        spentOrNot("depth 4;cap 8;load 2 at 3 to 2;load 6 at 2 to 1;stone 1 at 3;load 4 at 3 to 3;stone 7 at 0;", SPENT);
         // by weight alone they can't even start
         Check.same("1859 by hand, few by weight", 0, Check.town("depth 10;stone 1 at 0;stone 1 at 0;").fewest(0));
         // needs 0: empty ones go anywhere by weight
         Check.same("by weight", SPENT,
             Check.town("depth 10;needs 0;most 99;stone 1 at 0;stone 1 at 0;load 5 at 0 to 9;").fewest(0));
+    }
+
+    private static void spentOrNot(String text, int due) {
+        RopeTown x = Check.town(text);
+        Check.same("fewest 0 of " + text, due, x.fewest(0));
+        Check.same("reach of " + text, due == SPENT ? 1 : 0, x.reach(0) == SPENT ? 1 : 0);
+        Check.same("bars of " + text, due == SPENT ? 1 : 0, x.bars(0, 0) == SPENT ? 1 : 0);
+    }
+
+    /** What is asked of a town is not answered by what another one with the same first state was asked. */
+    private static void eachTownAnew() {
+        RopeTown x = Check.town("load 5 at 0 to 1;stone 3 at 0;");
+        Check.same("it goes", 1, x.fewest(0));
+        Check.tell(x, "needs 6;load 5 at 0 to 1;stone 3 at 0;");
+        Check.same("with the stone alone", 2, x.bars(0, 1));
+        Check.tell(x, "rule loads = 0;load 5 at 0 to 1;stone 3 at 0;");
+        Check.same("it may not", NONE, x.fewest(0));
+        Check.tell(x, "rule stones = 0;load 5 at 0 to 1;stone 3 at 0;");
+        Check.same("it may", 1, x.fewest(0));
+        Check.tell(x, "load 7 at 0 to 1;stone 3 at 0;needs 6;cap 6;");
+        Check.same("it may not", NONE, x.fewest(0));
+        Check.tell(x, "x");
+        Check.same("still not", NONE, x.fewest(0));
     }
 
     private static void spentThoughServed() {
@@ -201,6 +230,8 @@ public final class SearchTest {
         Check.same("at the aim", 0b1000, x.reach(1));
         x.unload(1);
         Check.same("poured", 0, x.reach(1));
+        RopeTown w = Check.town("depth 3;start 1;needs 0;water 5 at 1 to 3;");
+        Check.same("poured on the way it is nowhere", 0b1110, w.reach(0));
         RopeTown y = Check.town(SERVED_AMONG_MANY);
         Check.same("spent", SPENT, y.reach(1));
         Check.same("served, whatever else", 2, y.reach(0));

@@ -177,6 +177,11 @@ public final class TextTest {
         Check.fault("66666", 1, 0);
         Check.fault("load 5 at 0 at 1;", 1, 12);
         Check.fault("load 5 to 1;", 1, 7);
+        Check.fault("load 5 0;", 1, 7);
+        Check.fault("stone 5;", 1, 7);
+        Check.fault("xap 5;", 1, 0);
+        Check.fault("cax 5;", 1, 0);
+        Check.fault("rule xot 1;", 3, 5);
         Check.fault("load 5 at 0 to;", 1, 14);
         Check.fault("load at 0;", 1, 5);
         Check.fault("stone 5 at 0 to 1;", 1, 13);
@@ -315,6 +320,8 @@ public final class TextTest {
         worth("(1 < 2) = 1", true);
         worth("(2 < 1) = 0", true);
         worth("1 < 1", false);
+        worth("(3 = 3) = 1", true);
+        worth("(3 = 4) = 0", true);
         worth("(5 and 7) = 1", true);
         worth("(5 or 0) = 1", true);
         worth("(0 or 0) = 0", true);

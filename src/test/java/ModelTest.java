@@ -35,6 +35,9 @@ public final class ModelTest {
             spent += test.spent;
             answered += test.answered;
         }
+        for (int run = 0; run < runs / 5; run++) {
+            new ModelTest(first + run).windLongWays(first + run);
+        }
         System.out.println("searches: " + answered + " answered, " + spent + " spent");
         Check.end("ModelTest");
     }
@@ -52,6 +55,33 @@ public final class ModelTest {
         }
         if (log.length() > 0) {
             System.out.println("seed " + seed + log);
+        }
+    }
+
+    /** Deep shafts with few things, where the cheapest way by hand is often not the first one found. */
+    private void windLongWays(long seed) {
+        x = new RopeTown();
+        model = new Model();
+        int depth = 3 + random.nextInt(9);
+        StringBuilder text = new StringBuilder("depth " + depth + ";");
+        clause(text, "start", depth + 1, 2);
+        clause(text, "rope", 3, 2);
+        clause(text, "needs", 9, 2);
+        clause(text, "most", 9, 1);
+        clause(text, "brake", 5, 3);
+        for (int i = depth < 4 ? 3 : depth < 10 ? 2 : 1; i > 0; i--) {
+            String kind = new String[] {"load", "person", "water"}[random.nextInt(3)];
+            text.append(kind).append(" ").append(1 + random.nextInt(30)).append(" at ");
+            text.append(random.nextInt(depth + 1)).append(" to ").append(random.nextInt(depth + 1)).append(";");
+        }
+        if (random.nextInt(3) == 0) {
+            text.append("rule ").append(randomRule()).append(";");
+        }
+        tell(text.toString());
+        same("fewest 1", () -> x.fewest(1), () -> model.fewest(1));
+        same("reach 0", () -> x.reach(0), () -> model.reach(0));
+        if (log.length() > 0) {
+            System.out.println("long ways of seed " + seed + log);
         }
     }
 

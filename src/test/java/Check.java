@@ -17,6 +17,14 @@ final class Check {
         }
     }
 
+    static void sameText(String what, String due, String got) {
+        asked++;
+        if (!due.equals(got)) {
+            wrong++;
+            System.out.println(what + ": answered \"" + got + "\", due is \"" + due + "\"");
+        }
+    }
+
     static void noSuch(String what, IntSupplier call) {
         asked++;
         try {

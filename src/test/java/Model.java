@@ -650,8 +650,17 @@ final class Model {
         return seen;
     }
 
+    /** How many STATES there are from the one now on, however many. */
+    int states(boolean wound) {
+        return explore(book.state, wound, Integer.MAX_VALUE).size();
+    }
+
     /** The least cost to each state behind rides; null: spent. */
     private Map<List<Integer>, Integer> explore(List<Integer> from, boolean wound) {
+        return explore(from, wound, 1500);
+    }
+
+    private Map<List<Integer>, Integer> explore(List<Integer> from, boolean wound, int most) {
         Map<List<Integer>, Integer> best = new HashMap<>();
         Map<Integer, List<List<Integer>>> waiting = new HashMap<>();
         PriorityQueue<Integer> costs = new PriorityQueue<>();
@@ -678,7 +687,7 @@ final class Model {
                         best.put(n, nc);
                         waiting.computeIfAbsent(nc, k -> new ArrayList<>()).add(n);
                         costs.add(nc);
-                        if (best.size() > 1500) {
+                        if (best.size() > most) {
                             return null;
                         }
                     }

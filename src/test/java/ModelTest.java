@@ -38,6 +38,9 @@ public final class ModelTest {
         for (int run = 0; run < runs / 5; run++) {
             new ModelTest(first + run).windLongWays(first + run);
         }
+        for (int run = 0; run < runs / 5; run++) {
+            new ModelTest(first + run).fillTheRow(first + run);
+        }
         System.out.println("searches: " + answered + " answered, " + spent + " spent");
         Check.end("ModelTest");
     }
@@ -82,6 +85,54 @@ public final class ModelTest {
         same("reach 0", () -> x.reach(0), () -> model.reach(0));
         if (log.length() > 0) {
             System.out.println("long ways of seed " + seed + log);
+        }
+    }
+
+    /** Many MOVES, until THE ROW and the DAYS are full, and back again by undo and by the image. */
+    private void fillTheRow(long seed) {
+        x = new RopeTown();
+        model = new Model();
+        tell(randomTown());
+        for (int i = 0; i < 250; i++) {
+            int t = random.nextInt(x.count(1) + 1);
+            int d = random.nextInt(x.count(0) + 1);
+            int b = random.nextInt(2);
+            int how = random.nextInt(4) == 0 ? random.nextInt(2) : 2;
+            switch (random.nextInt(12)) {
+                case 0: case 1: case 2: same("load " + t + " " + b, () -> x.load(t, b), () -> model.load(t, b)); break;
+                case 3: case 4: same("unload " + t, () -> x.unload(t), () -> model.unload(t)); break;
+                case 5: case 6: case 7: same("ride " + d, () -> x.ride(d, how), () -> model.ride(d, how)); break;
+                case 8: same("back", x::back, model::back); break;
+                case 9: same("may " + d, () -> x.may(d), () -> model.may(d)); break;
+                case 10: day(); break;
+                default: takeBack();
+            }
+        }
+        all();
+        if (log.length() > 0) {
+            System.out.println("full row of seed " + seed + log);
+        }
+    }
+
+    private void takeBack() {
+        int much = random.nextInt(12) == 0 ? 61 : random.nextInt(4) - 1;
+        for (int i = 0; i < much; i++) {
+            same("undo", x::undo, model::undo);
+        }
+        if (much < 1) {
+            image();
+        }
+        all();
+        row();
+    }
+
+    private void row() {
+        for (int i = -1; i <= x.count(9); i++) {
+            int at = i;
+            for (int what = 0; what <= 2; what++) {
+                int w = what;
+                same("moved " + i + " " + w, () -> x.moved(at, w), () -> model.moved(at, w));
+            }
         }
     }
 
